@@ -33,7 +33,7 @@ public final class PageMachine {
             OUTPUT_BYTES = 65536;
     private static final long WORK = 40000000;
     private static final int ONE = 65536, HALF = 32768, PLACE = 536870912;
-    private static final long UNREAL = Long.MIN_VALUE;
+    private static final long BEYOND = 1L << 62, UNREAL = -BEYOND;
     private static final int PATH_PARTS = 3000, PILE = 12, CLIP_RUNS = 24000, STROKE_POINTS = 2000,
             STROKE_PIECES = 2000, STROKE_DASHES = 20000, HALF_WIDTH = 4194304;
     private static final int USER = 0, FONTS = 1, SYSTEM = DICTIONARIES;
@@ -1062,10 +1062,10 @@ public final class PageMachine {
 
     /** The names, and the dictionaries: keys by hash, and in the order in which they first came. */
     private static final class Dictionaries {
-        private static final int NAME_HEADS = 1024, KEY_HEADS = 2048;
+        private static final int NAME_HEADS = 1024, KEY_HEADS = 2048, KNOWN_BYTES = 2048;
         private final Store store;
         int[] nameStart = new int[256];
-        byte[] nameBytes = new byte[2048];
+        byte[] nameBytes = new byte[KNOWN_BYTES];
         private int[] nextName = new int[256];
         private final int[] nameHeads = new int[NAME_HEADS];
         private int nameCount;
@@ -1203,9 +1203,9 @@ public final class PageMachine {
 
         private void putName(byte[] row, int start, int length) {
             int begin = nameStart[nameCount];
-            nameBytes = grown(nameBytes, begin + length, 2 * NAME_BYTES);
-            nameStart = grown(nameStart, nameCount + 2, 2 * NAMES);
-            nextName = grown(nextName, nameCount + 1, 2 * NAMES);
+            nameBytes = grown(nameBytes, begin + length, KNOWN_BYTES + NAME_BYTES);
+            nameStart = grown(nameStart, nameCount + 2, KNOWN_NAMES + NAMES + 1);
+            nextName = grown(nextName, nameCount + 1, KNOWN_NAMES + NAMES);
             System.arraycopy(row, start, nameBytes, begin, length);
             nameStart[nameCount + 1] = begin + length;
             int head = spread(row, start, length);
@@ -3232,7 +3232,8 @@ public final class PageMachine {
             int waiting = 1;
             for (int n = 0; n < 4 << HALVINGS && waiting > 0; n++) {
                 int at = (waiting - 1) * 9;
-                if (halves[at + 8] < HALVINGS && !(isFlat(halves, at, bound) && isFlat(halves, at + 4, bound))) {
+                if (halves[at + 8] < HALVINGS
+                        && !(isFlat(halves, at, bound) && isFlat(halves, at + 4, bound))) {
                     halves[at + 8]++;
                     halves[at + 17] = halves[at + 8];
                     halve(halves, at);
@@ -4131,10 +4132,10 @@ public final class PageMachine {
         }
 
         private int giveBox(int left, int right, int top, int bottom) {
-            long leastX = Long.MAX_VALUE;
-            long leastY = Long.MAX_VALUE;
-            long greatestX = Long.MIN_VALUE;
-            long greatestY = Long.MIN_VALUE;
+            long leastX = BEYOND;
+            long leastY = BEYOND;
+            long greatestX = -BEYOND;
+            long greatestY = -BEYOND;
             for (int corner = 0; corner < 4; corner++) {
                 int x = (corner & 1) == 0 ? left : right;
                 int y = (corner & 2) == 0 ? top : bottom;
