@@ -1,6 +1,11 @@
+import java.lang.reflect.Field;
+import java.lang.reflect.Method;
+import java.lang.reflect.Modifier;
+
 /** Promises 1 to 16: the face, by ordinary inputs, the edges that are named, and wrong inputs. */
 public final class FaceTest {
     public static void main(String[] args) {
+        face();
         newObject();
         feedAndEnd();
         loadAndPlace();
@@ -13,6 +18,25 @@ public final class FaceTest {
         Probe.due("NO", PageMachine.NO, -2);
         Probe.due("FULL", PageMachine.FULL, -3);
         Probe.finish();
+    }
+
+    /** The public members are those of the document, and all others are private. */
+    private static void face() {
+        String open = "";
+        for (Field field : PageMachine.class.getDeclaredFields()) {
+            open += Modifier.isPrivate(field.getModifiers()) ? "" : " " + field.getName();
+        }
+        Probe.due("constants", open, " BAD NO FULL");
+        int methods = 0;
+        for (Method method : PageMachine.class.getDeclaredMethods()) {
+            boolean isPublic = Modifier.isPublic(method.getModifiers());
+            methods += isPublic ? 1 : 0;
+            if (!isPublic && !Modifier.isPrivate(method.getModifiers())) {
+                Probe.due("private " + method.getName(), 0, 1);
+            }
+        }
+        Probe.due("methods", methods, 15);
+        Probe.due("final", PageMachine.class.getModifiers(), Modifier.PUBLIC | Modifier.FINAL);
     }
 
     private static void newObject() {
