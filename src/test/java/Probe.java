@@ -35,19 +35,25 @@ final class Probe {
         }
     }
 
-    /** Puts bytes on the tape, twenty at a time, and cuts what is too much. */
+    /** Puts bytes on the tape: first those beyond twenties, so that 65536 find room, then twenties. */
     void feed(String bytes) {
-        for (int at = 0; at < bytes.length(); at += 20) {
-            int[] words = new int[5];
-            for (int i = 0; i < 20; i++) {
-                int c = at + i < bytes.length() ? bytes.charAt(at + i) : ' ';
-                words[i / 4] = words[i / 4] << 8 | c;
-            }
-            machine.feed(words[0], words[1], words[2], words[3], words[4]);
-            if (bytes.length() - at < 20) {
-                machine.end(bytes.length() - at);
-            }
+        int odd = bytes.length() % 20;
+        if (odd > 0) {
+            feedTwenty(bytes, 0, odd);
+            machine.end(odd);
         }
+        for (int at = odd; at < bytes.length(); at += 20) {
+            feedTwenty(bytes, at, at + 20);
+        }
+    }
+
+    private void feedTwenty(String bytes, int from, int to) {
+        int[] words = new int[5];
+        for (int i = 0; i < 20; i++) {
+            int c = from + i < to ? bytes.charAt(from + i) : ' ';
+            words[i / 4] = words[i / 4] << 8 | c;
+        }
+        machine.feed(words[0], words[1], words[2], words[3], words[4]);
     }
 
     int load(String program) {
@@ -98,5 +104,48 @@ final class Probe {
 
     static void tells(String program, String want) {
         due(program, new Probe().told(program), want);
+    }
+
+    /** What operand k is: 5, 98304u (a real's units), (text), /name, name, [2] {3} <4> by length. */
+    String operand(int k) {
+        StringBuilder bytes = new StringBuilder();
+        for (int i = 0; machine.byteOf(k, i) >= 0; i++) {
+            bytes.append((char) machine.byteOf(k, i));
+        }
+        int number = machine.numberOf(k);
+        String[] told = {"null", "false", "true", "" + number, number + "u", "mark", "/" + bytes,
+            "" + bytes, "(" + bytes + ")", "[" + number + "]", "{" + number + "}",
+            "<" + number + ">", "--" + bytes + "--", "save" + number};
+        int kind = machine.kindOf(k);
+        return kind < 0 ? "none" : told[kind];
+    }
+
+    /** What a program leaves on the operands, the lowest one first, with its error behind it. */
+    String left(String program) {
+        int state = run(program);
+        StringBuilder text = new StringBuilder();
+        for (int k = machine.depth(0) - 1; k >= 0; k--) {
+            text.append(operand(k)).append(' ');
+        }
+        if (state != 0) {
+            text.append(state == 2 ? "error " + machine.error() : "state " + state);
+        }
+        return text.toString().trim();
+    }
+
+    static void leaves(String program, String want) {
+        due(program, new Probe().left(program), want);
+    }
+
+    /** What depth answers behind a program, on a page of so many columns and rows. */
+    static void depthIs(String program, int what, int want) {
+        Probe p = new Probe();
+        p.run(program);
+        due("depth " + what + " behind " + program, p.machine.depth(what), want);
+    }
+
+    /** A number of values on the operands, each one a whole number. */
+    static String full(int n) {
+        return n + " { 1 } repeat ";
     }
 }
