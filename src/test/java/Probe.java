@@ -130,7 +130,7 @@ final class Probe {
         if (state != 0) {
             text.append(state == 2 ? "error " + machine.error() : "state " + state);
         }
-        return text.toString().trim();
+        return text.toString().strip();
     }
 
     static void leaves(String program, String want) {
