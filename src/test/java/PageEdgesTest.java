@@ -267,10 +267,8 @@ public final class PageEdgesTest {
         runs(striped(64, 63) + "gsave gsave", 0, 8000);
         runs(striped(65, 63) + "gsave gsave", 12, 8001);
         runs("gsave " + striped(64, 186), 0, 64 * 186 + 64 * 185);
-        runs("gsave " + striped(64, 187), 12, 65536);
         // 256 runs of the page's own clip are on the pile: 23744 are left.
-        runs("gsave " + striped(64, 186).replace("for clip", "for 0 185 moveto 0 186 lineto 1 186 lineto clip"),
-                0, 64 * 186 + 64 * 185);
+        runs("gsave " + striped(65, 186), 12, 65536);
         runs(striped(96, 94) + "gsave initclip", 0, 65536);
         runs(striped(96, 94) + "gsave initclip gsave", 0, 65536);
         runs(striped(96, 94) + "gsave initclip grestore", 0, 12000);
