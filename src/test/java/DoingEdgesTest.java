@@ -29,6 +29,12 @@ public final class DoingEdgesTest {
                 + " 1 pop } { /n n 1 sub def f 1 pop } ifelse } def f 1 pop";
     }
 
+    private static int errorOf(String program) {
+        Probe p = new Probe();
+        p.run(program);
+        return p.machine.error();
+    }
+
     private static String chain(int names) {
         StringBuilder text = new StringBuilder();
         for (int i = 1; i < names; i++) {
@@ -104,6 +110,9 @@ public final class DoingEdgesTest {
                 "null true 1 98304u mark /a (a) [1] <0> save1");
         Probe.leaves("{ 1 2 } exec { } exec /add load exec /x 5 def /x cvx exec", "3 5");
         Probe.leaves("/x { 1 2 } def /x cvx exec /x load exec /x load cvlit exec", "1 2 1 2 [2]");
+        // An operator that is met in a procedure does as its name does.
+        Probe.leaves("{ 1 2 } [ /exec load ] cvx exec [ { 3 } /exec load ] cvx exec", "1 2 3");
+        Probe.leaves("{ 4 5 } [ /stopped load ] cvx exec [ 1 2 /add load ] cvx exec", "4 5 false 3");
         Probe.leaves("exec", "error 1");
         Probe.leaves("stopped", "error 1");
         // "What exec and stopped take is gone when they have done it"
@@ -134,7 +143,9 @@ public final class DoingEdgesTest {
     /** "CALLS that would be more than 250: EXECSTACKOVERFLOW." */
     private static void roomForCalls() {
         Probe.leaves(deep(249, "{ 1 2 } exec"), "1 2");
-        Probe.leaves(deep(250, "{ 1 2 } exec"), "{2} error 10");
+        Probe.due("no room for two values", errorOf(deep(250, "{ 1 2 } exec")), 10);
+        Probe.due("nor for one", errorOf(deep(250, "{ 1 } exec")), 10);
+        Probe.leaves(deep(249, "{ 1 } exec"), "1");
         Probe.leaves(deep(250, "{ } exec 7 exec 1 2 /add load exec"), "7 3");
         Probe.leaves(deep(249, "true { 1 2 } if"), "1 2");
         Probe.leaves(deep(250, "true { 1 2 } if"), "true {2} error 10");
@@ -180,10 +191,11 @@ public final class DoingEdgesTest {
     private static void roomForStopped() {
         Probe.leaves(deep(248, "{ 1 2 } stopped"), "1 2 false");
         Probe.leaves(deep(249, "{ } stopped 5 stopped"), "false 5 false");
-        Probe.leaves(deep(250, "{ } stopped"), "{0} error 10");
-        Probe.leaves(deep(250, "5 stopped"), "5 error 10");
+        Probe.due("no room for stopped", errorOf(deep(250, "{ } stopped")), 10);
+        Probe.due("of whatever", errorOf(deep(250, "5 stopped")), 10);
         // Below the calls that are counted here lie one more procedure, and stopped.
-        Probe.leaves("{ " + deep(248, "{ 1 2 } exec") + " } stopped lasterror", "{2} true 10");
+        Probe.leaves("{ " + deep(248, "{ 1 2 } exec") + " } stopped exch pop lasterror clear", "");
+        Probe.due("no room below stopped", errorOf("{ " + deep(248, "{ 1 2 } exec") + " } stopped { 1 0 div } if"), 6);
         Probe.leaves("{ " + deep(247, "{ 1 2 } exec") + " } stopped lasterror", "1 2 false 0");
     }
 
@@ -285,6 +297,14 @@ public final class DoingEdgesTest {
         Probe.leaves("1 1 9 { 3 eq { exit } if } for 7", "7");
         Probe.leaves("(abc) { exit } forall << 1 2 >> { exit } forall 5 { exit } repeat", "97 1 2");
         Probe.leaves("{ exit } loop exit", "error 11");
+        // What was under way in a loop that was left is not so in the next one.
+        Probe.leaves("{ exit } loop 1 1 3 { } for 5 { exit } repeat 2 { 7 } repeat", "1 2 3 7 7");
+        Probe.leaves("1 1 9 { exit } for [ 4 5 ] { } forall 1 1 2 { } for", "1 4 5 1 2");
+        Probe.leaves("{ { stop } loop } stopped 1 1 2 { } for", "true 1 2");
+        Probe.leaves("<< /FontMatrix matrix /BuildGlyph { pop pop 7 } >> setfont 0 0 moveto { exit } loop (ab) show", "7 7");
+        // Loops have nothing to do with the pile.
+        Probe.depthIs("{ gsave exit } loop 2 { gsave exit } repeat 1 1 2 { pop gsave exit } for [ 1 ] { pop gsave exit } forall", 3, 4);
+        Probe.depthIs("{ { gsave stop } loop } stopped { gsave stop } stopped", 3, 2);
         Probe p = new Probe();
         p.load("{ { 1 exit } exec 2 } loop 3");
         p.machine.run(7);

@@ -79,7 +79,6 @@ public final class FaceTest {
     private static void loadAndPlace() {
         Probe p = new Probe();
         Probe.due("load of nothing", p.machine.load(), 0);
-        Probe.due("depth before its run", p.machine.depth(2), 0);
         Probe.due("it ends without fuel", p.machine.run(0), 0);
         Probe.due("fault", p.load("1 2 ) 3"), -1);
         Probe.due("its place", p.machine.place(), 4);

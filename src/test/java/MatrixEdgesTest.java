@@ -125,6 +125,13 @@ public final class MatrixEdgesTest {
         Probe.leaves("[ 2 0 0 2 1 0 ] setmatrix 16384 1 scale", "16384 1 error 4");
         Probe.leaves("[ 2 0 0 2 1 0 ] setmatrix 16383.99998 -16383.99998 scale", "");
         Probe.leaves("[ 32767 32767 -32767 32767 0 0 ] setmatrix 45 rotate", "45 error 4");
+        // Each of the six may be the one that is no real.
+        Probe.leaves("[ 200 0 0 1 0 0 ] setmatrix [ 200 0 0 1 0 0 ] concat", "[6] error 4");
+        Probe.leaves("[ 1 0 0 200 0 0 ] setmatrix [ 1 200 0 1 0 0 ] concat", "[6] error 4");
+        Probe.leaves("[ 200 0 0 1 0 0 ] setmatrix [ 1 0 200 1 0 0 ] concat", "[6] error 4");
+        Probe.leaves("[ 1 0 0 200 0 0 ] setmatrix [ 1 0 0 200 0 0 ] concat", "[6] error 4");
+        Probe.leaves("[ 200 0 0 1 0 0 ] setmatrix [ 1 0 0 1 200 0 ] concat", "[6] error 4");
+        Probe.leaves("[ 1 0 0 200 0 0 ] setmatrix [ 1 0 0 1 0 200 ] concat", "[6] error 4");
         Probe.leaves("1 40000 scale", "1 40000 error 4");
         Probe.leaves("40000 1 translate", "40000 1 error 4");
     }
@@ -139,6 +146,10 @@ public final class MatrixEdgesTest {
         Probe.leaves("[ 1 2 3 5 8 13 ] setmatrix 1 1 transform itransform", "65536u 65536u");
         Probe.leaves("[ -1 0 0 1 0.5 0 ] setmatrix 1 1 itransform", "-32768u 65536u");
         Probe.leaves("[ 0 1 1 0 0 0 ] setmatrix 3 4 itransform", "262144u 196608u");
+        // Halves of a unit go up in each of the six.
+        Probe.leaves("[ 2 0 0 2 " + UNIT + "-" + UNIT + "] setmatrix 0 0 itransform", "0u 1u");
+        Probe.leaves("[ 2 0 0 2 -" + UNIT + UNIT + "] setmatrix 0 0 itransform", "1u 0u");
+        Probe.leaves("[ 2 0 0 -2 " + UNIT + UNIT + "] setmatrix 0 0 itransform", "0u 1u");
     }
 
     /** "not 0 (UNDEFINED RESULT)" */
@@ -163,6 +174,9 @@ public final class MatrixEdgesTest {
         Probe.leaves("[ 0.000030517578125 0 0 1 0 0 ] setmatrix 0 0 itransform", "0 0 error 4");
         Probe.leaves("[ 0.0000457763671875 0 0 1 0 0 ] setmatrix 0 0 itransform", "0u 0u");
         Probe.leaves("[ 1 0 0 0.000030517578125 0 0 ] setmatrix 0 0 itransform", "0 0 error 4");
+        Probe.leaves("[ 0.07 200 0 0.07 0 0 ] setmatrix 0 0 itransform", "0 0 error 4");
+        Probe.leaves("[ 0.07 0 200 0.07 0 0 ] setmatrix 0 0 itransform", "0 0 error 4");
+        Probe.leaves("[ 0.08 200 0 0.08 0 0 ] setmatrix 0 0 itransform", "0u 0u");
         Probe.leaves("[ 0.5 0 0 1 16384 0 ] setmatrix 0 0 itransform", "0 0 error 4");
         Probe.leaves("[ 0.5 0 0 1 16383.99998 0 ] setmatrix 0 0 itransform", "-2147483646u 0u");
         Probe.leaves("[ 1 0 0 0.5 0 -16384 ] setmatrix 0 0 itransform", "0 0 error 4");

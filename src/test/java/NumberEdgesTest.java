@@ -210,6 +210,14 @@ public final class NumberEdgesTest {
         }
         Probe.leaves("(" + "0".repeat(126) + "7) cvi (" + "0".repeat(126) + "7) cvr", "7 458752u");
         Probe.leaves("(" + "0".repeat(127) + "7) cvi length", "(" + "0".repeat(127) + "7) error 3");
+        // A part of a text is that part alone.
+        Probe.leaves("(55) 0 1 getinterval cvi (1.5) 0 1 getinterval cvi (1.5) 0 2 getinterval cvr (16#ff) 0 4 getinterval cvi",
+                "5 1 65536u 15");
+        Probe.leaves("(+5) 0 0 getinterval cvi", "() error 3");
+        Probe.leaves("(1e5) 0 2 getinterval cvi", "(1e) error 3");
+        Probe.leaves("(1e+5) 0 3 getinterval cvr", "(1e+) error 3");
+        Probe.leaves("(16#ff) 0 3 getinterval cvi", "(16#) error 3");
+        Probe.leaves("(x5y) 1 1 getinterval cvi", "5");
         // A text of more than a row is none, though it would be fault 5 else.
         Probe.leaves("(" + "9".repeat(128) + ") cvi", "(" + "9".repeat(128) + ") error 3");
         Probe.leaves("true cvi", "true error 3");

@@ -263,6 +263,7 @@ public final class RowEdgesTest {
     private static void keys() {
         Probe.leaves("/d 0 dict def d /a 1 put d (a) 2 put d /a cvx 3 put d length d (a) get", "1 3");
         Probe.leaves("/d 0 dict def d 1 1 put d 1.0 2 put d 1.5 3 put d length d 1 get d 1.5 get", "2 2 3");
+        Probe.leaves("/d 0 dict def d 1 1 put d 1.00001525878 known d 0.99998 known d 65537 known", "false false false");
         Probe.leaves("/d 0 dict def d -1.0 1 put d -1 get d -0.5 2 put d -0.5 get d 0 3 put d 0.0 get", "1 2 3");
         Probe.leaves("/d 0 dict def d 32767.0 1 put d 32767 get d 32768 known", "1 false");
         Probe.leaves("/d 0 dict def /p { 1 } def d /p load 1 put d /p load cvlit get d { 1 } known", "1 false");

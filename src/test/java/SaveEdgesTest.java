@@ -107,6 +107,12 @@ public final class SaveEdgesTest {
         Probe.leaves(s + "[ /s load /restore cvx /exit cvx ] cvx loop", "save1 error 15");
         Probe.leaves(s + "1 { s restore } repeat", "");
         Probe.leaves(s + "{ s restore } stopped", "false");
+        // What was called there before is none of THE CALLS any more.
+        Probe.leaves(s + "[ 1 /pop load 2 /pop load ] cvx exec { s restore } stopped", "false");
+        Probe.leaves(s + "[ 1 ] { pop } forall { s restore } stopped", "false");
+        Probe.leaves(s + "[ 1 ] { pop exit } forall { s restore } stopped 1 { 5 } repeat", "false 5");
+        Probe.leaves(s + "1 [ 1 /pop load ] cvx repeat { s restore exit } loop", "");
+        Probe.leaves(s + "2 string { pop } forall 1 1 1 { pop s restore } for", "");
         // The text and the font of a show.
         String glyph = "<< /FontMatrix [ 1 0 0 1 0 0 ] /BuildGlyph { pop pop s restore } >> setfont 0 0 moveto ";
         Probe.leaves(glyph + s + "(a) show", "");
@@ -176,6 +182,8 @@ public final class SaveEdgesTest {
         Probe.leaves(d + "d /b 2 put d { pop dup /b eq { s restore d /c 3 put } if } forall", "/a /b");
         Probe.leaves(d + "d /b 2 put d { pop dup /a eq { s restore d /c 3 put } if } forall", "/a /c");
         Probe.leaves(d + "d { pop dup /a eq { d /a undef s restore d /c 3 put } if } forall", "/a /c");
+        // The next loop over a dictionary is not at its end.
+        Probe.leaves(d + "d /b 2 put d { pop /b eq { s restore } if } forall d { } forall", "/a 1");
         // A key that is gone by undef is one to go on from.
         Probe.leaves("/d << /a 1 /b 2 >> def d { pop d /a undef } forall", "/a /b");
     }

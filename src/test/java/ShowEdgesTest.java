@@ -102,7 +102,6 @@ public final class ShowEdgesTest {
         Probe.leaves(f + "f 5461 scalefont length", "4");
         Probe.leaves(f + "f 5462 scalefont", "<4> 5462 error 4");
         Probe.leaves(f + "f 32768 scalefont", "<4> 32768 error 4");
-        Probe.leaves("<< 1 2 >> 32768 scalefont", "<1> 32768 error 16");
         Probe.leaves(f + "f /c undef f /a undef f 2 scalefont { pop } forall", "/FontMatrix /b /BuildGlyph");
     }
 

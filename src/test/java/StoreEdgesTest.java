@@ -72,6 +72,8 @@ public final class StoreEdgesTest {
         Probe.leaves("32756 array pop " + FONT + "2 scalefont", "<2>");
         Probe.leaves("32757 array pop " + FONT + "2 scalefont", "<2> 2 error 14");
         Probe.leaves("32757 array pop " + FONT + "{ 2 scalefont } stopped clear countdictstack", "2");
+        Probe.leaves("[ 1 2 ] 32766 array copy 0 get", "1");
+        Probe.leaves("32762 array pop matrix currentmatrix 1 2 getinterval", "[2]");
         // A part takes no places.
         Probe.leaves("32768 array 0 32768 getinterval length", "32768");
     }
@@ -82,6 +84,8 @@ public final class StoreEdgesTest {
         Probe.leaves("65535 string length 2 string", "65535 2 error 14");
         Probe.leaves("65535 string pop 1 string pop 1 string", "1 error 14");
         Probe.leaves("65535 string 0 65535 getinterval length", "65535");
+        Probe.leaves("65525 string pop (abc) (defghij) copy 12 exch cvs (1) search", "(2) (1) () true");
+        Probe.leaves("65525 string pop (abc) (defghij) copy (a) anchorsearch", "(bc) (a) true");
         Probe.leaves("65535 array", "65535 error 14");
         Probe.leaves("65536 array", "65536 error 4");
     }
@@ -170,6 +174,12 @@ public final class StoreEdgesTest {
         Probe.leaves(changesLeft(1) + "o 0 5 put d 5 1 put", "<3> 5 1 error 14");
         // What came behind the save is not remembered, nor are bytes.
         Probe.leaves(changesLeft(1) + "o 0 5 put /new 1 def /new 2 def 3 array 0 9 put (abc) 0 65 put new", "2");
+        Probe.leaves(changesLeft(1) + "o 0 5 put /z 5 def z", "5");
+        Probe.leaves(changesLeft(1) + "o 0 5 put 1 array 0 9 put", "");
+        // Behind a restore a key's change for an older save is remembered still.
+        Probe.leaves(changesLeft(3) + "/k 1 def /y save def /k 2 def y restore o 0 5 put o 1 6 put /k 3 def k", "3");
+        Probe.leaves(changesLeft(3) + "/k 1 def /y save def /k 2 def y restore o 0 5 put o 1 6 put /n 3 def",
+                "/n 3 error 14");
         Probe.leaves(changesLeft(1) + "o 0 5 put /F << /FontMatrix m /BuildGlyph { } >> definefont pop", "");
         // Without a save nothing is remembered.
         Probe.leaves("/a 30000 array def 2 { 0 1 29999 { a exch 1 put } for } repeat", "");
@@ -198,6 +208,9 @@ public final class StoreEdgesTest {
         Probe.leaves(changesLeft(2) + "{ [ 7 8 9 ] o copy } stopped clear o 0 4 getinterval aload pop", "7 8 null null");
         Probe.leaves(changesLeft(2) + "{ { 7 8 9 } o copy } stopped clear o 0 4 getinterval aload pop", "null 8 9 null");
         Probe.leaves(changesLeft(3) + "{ 7 8 9 } o copy", "[3]");
+        Probe.leaves(changesLeft(2) + "{ 7 8 9 } o copy", "{3} [9] error 14");
+        Probe.leaves(changesLeft(2) + "<< 3 33 5 55 1 11 >> d copy", "<3> <3> error 14");
+        Probe.leaves(changesLeft(5) + "m currentmatrix", "[6] error 14");
         Probe.leaves(changesLeft(4) + "5 5 translate { m currentmatrix } stopped clear m aload pop",
                 "65536u 0u 0u -65536u 0u 0u");
         Probe.leaves(changesLeft(6) + "5 5 translate m currentmatrix aload pop",
@@ -220,6 +233,21 @@ public final class StoreEdgesTest {
         // What came before the save stays counted.
         Probe.leaves("30000 array pop save 2768 array pop restore 2769 array", "2769 error 14");
         Probe.leaves("30000 array pop save 2768 array pop restore 2768 array", "[2768]");
+        Probe.leaves("60000 string pop save 5536 string pop restore 5537 string", "5537 error 14");
+        Probe.leaves("60000 string pop save 5536 string pop restore 5536 string length", "5536");
+        Probe.leaves("16000 { 0 array pop } repeat save 381 { 0 array pop } repeat restore 381 { 0 array pop } repeat", "");
+        Probe.leaves("16000 { 0 array pop } repeat save 381 { 0 array pop } repeat restore 382 { 0 array pop } repeat",
+                "0 error 14");
+        Probe.leaves("1000 { 0 dict pop } repeat save 22 { 0 dict pop } repeat restore 22 { 0 dict pop } repeat 0 dict",
+                "0 error 14");
+        Probe.leaves("0 1 15999 { 0 def } for save 16000 1 16383 { 0 def } for restore 16000 1 16384 { 0 def } for",
+                "16384 0 error 14");
+        // Bytes and places that were taken before the save are not given away again.
+        Probe.leaves("/t (abcdefgh) def /a [ 1 2 3 ] def save restore 8 string pop 3 array pop t a aload pop",
+                "(abcdefgh) 1 2 3");
+        Probe.leaves("/t 8 string def t 0 (abcdefgh) putinterval save 5 string pop restore 8 string pop t", "(abcdefgh)");
+        // Many keys, all of them changed and back again.
+        Probe.leaves("0 1 299 { 7 def } for save 0 1 299 { 8 def } for restore 0 0 1 299 { load add } for", "2100");
     }
 
     /** "8192 names .. (the operators' not counted)" */

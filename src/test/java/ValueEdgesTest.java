@@ -142,6 +142,16 @@ public final class ValueEdgesTest {
         alike("() /", true);
         alike("() ()", true);
         alike("(new) /neww", false);
+        alike("(cd) /ab", false);
+        alike("/ab (cd)", false);
+        alike("(abc) /ab", false);
+        alike("/ab (abc)", false);
+        alike("5 /abc", false);
+        alike("/abc 5", false);
+        alike("null /a", false);
+        alike("/a [ 1 ]", false);
+        alike("<< >> /abc", false);
+        alike("/abc (ab) 0 1 getinterval", false);
         alike("true true", true);
         alike("false false", true);
         alike("true false", false);
@@ -171,6 +181,13 @@ public final class ValueEdgesTest {
         alike("<< >> << >>", false);
         alike("/add where pop /sub where pop", true);
         alike("[ 1 ] (a)", false);
+        alike("[ 1 ] (ab) 0 1 getinterval", false);
+        // However many there are of each kind, none is like one of another kind.
+        Probe.tells("/s 9 string def /r 200 array def 0 1 199 { r exch 0 array put } for /n 200 array def "
+                + "0 1 199 { n exch dup s cvs cvn put } for false r { /v exch def n { v eq or } forall "
+                + "0 1 199 { v eq or } for } forall =", "false");
+        Probe.tells("/r 40 array def 0 1 39 { r exch 0 dict put } for /p 40 array def 0 1 39 { p exch 0 array put } for "
+                + "false r { /v exch def p { v eq or } forall 0 1 39 { v eq or } for } forall =", "false");
         alike("<< >> [ ]", false);
     }
 
@@ -182,6 +199,10 @@ public final class ValueEdgesTest {
                 "true false false");
         Probe.leaves("(a) (a) gt (a) (a) ge (a) (a) lt (a) (a) le", "false true false true");
         Probe.leaves("(a) (ab) lt (ab) (a) lt () (\\000) lt () () le (b) (ab) gt", "true false true true true");
+        Probe.leaves("1.00002 1 le 1 1.00002 ge (b) (a) le (a) (b) ge (ab) (a) le (a) (ab) ge",
+                "false false false false false false");
+        Probe.leaves("1.00002 1 gt 1 1.00002 lt (b) (a) gt (a) (b) lt (ab) (a) gt (a) (ab) lt",
+                "true true true true true true");
         Probe.leaves("(\\377) (\\177) gt (\\200) (\\177) gt (a\\377) (a\\000) lt", "true true false");
         Probe.leaves("/a (a) gt", "/a (a) error 3");
         Probe.leaves("true false gt", "true false error 3");

@@ -14,6 +14,8 @@ public final class WordEdgesTest {
         braces();
         texts();
         textsOfDigits();
+        behindTheEnd();
+        behindFaults();
         faultOne();
         faultTwo();
         faultThree();
@@ -129,9 +131,10 @@ public final class WordEdgesTest {
         Probe.leaves("1. .5 1.5 +1.5 -1.5 -.5 +1.", "65536u 32768u 98304u 98304u -98304u -32768u 65536u");
         Probe.leaves("1e0 1E0 1e+0 1e-0 1.e1 .5e1 15e-1 +1e1 -1e1",
                 "65536u 65536u 65536u 65536u 655360u 327680u 98304u 655360u -655360u");
+        Probe.leaves("1e+1 1E+2 1e-1 0.000000001e9 19e-1", "655360u 6553600u 6554u 65536u 124518u");
         Probe.leaves("0.0 -0.0 0e0 00000.00000 1e-5 0e999999999", "0u 0u 0u 0u 1u 0u");
         names("+.", "-.", ".", ".e1", "+.e1", "1e", "1e+", "1e-", "1.e", "1e1.", "1e.1", "1..", "1.1.1",
-                "1e1e1", "e1", "+e1", "1e++1", "1 e".substring(2), "1f0", "1.5x", "- 1".substring(0, 1));
+                "1e1e1", "e1", "+e1", "1e++1", "1.a", "1.5a", "1ea", "1e5a", "1e1f", "1 e".substring(2), "1f0", "1.5x", "- 1".substring(0, 1));
     }
 
     private static void names(String... words) {
@@ -163,6 +166,13 @@ public final class WordEdgesTest {
         fault("1e5", 5, 0);
         fault("3.2768e4", 5, 0);
         fault("99999.", 5, 0);
+        fault("1e9", 5, 0);
+        fault("1e19", 5, 0);
+        // Halves of a unit, and a little more, behind the point and before it.
+        Probe.leaves("1.0000079345703125 -1.0000079345703125 0.0000079345703125 -0.0000079345703125",
+                "65537u -65537u 1u -1u");
+        Probe.leaves("1.00000762939453125 -1.00000762939453125 -1.000007629394531250000000001 -1.0000076293945312",
+                "65537u -65536u -65537u -65536u");
         fault("1e127", 5, 0);
         fault("1e2147483648", 5, 0);
         Probe.leaves("1e-2147483649 0.00000000000000000000000000000001e32 " + "1" + "0".repeat(100) + "e-100",
@@ -220,6 +230,38 @@ public final class WordEdgesTest {
         Probe.leaves("<> < > <41> <4 1> <4\0\t\n\f\r 1>", "() () (A) (A) (A)");
         Probe.leaves("<4> <414> <F> <f> <0> <fF09aA>", "(@) (A@) (\u00f0) (\u00f0) (\0) (\u00ff\t\u00aa)");
         Probe.leaves("<41>length <4 >length <>length", "1 1 0");
+        Probe.leaves("<40> <00> <04> <f00f> <0a0>", "(@) (\0) (\4) (\u00f0\17) (\n\0)");
+    }
+
+    /** What stood on an earlier, longer tape is not read behind the end of this one. */
+    private static void behindTheEnd() {
+        String[] tapes = {"(ab) <41> 12 /ab", "(a(b)\\)c) )", "<4 1 41>>>", "(\\101\\2) (\\n)", "(a\r\nb\\\r\nc) \r\n",
+            "16#ff 1.5e+3 -1e-2 +7", "{ { 1 } 2 } }", "<< /a 1 >> % x\n y", "//a/b[]"};
+        for (String tape : tapes) {
+            for (int n = 0; n <= tape.length(); n++) {
+                Probe used = new Probe();
+                used.load(tape);
+                Probe fresh = new Probe();
+                String part = tape.substring(0, n);
+                Probe.due("again " + part, used.left(part), fresh.left(part));
+                Probe.due("place of " + part, used.machine.place(), fresh.machine.place());
+                Probe.due("steps of " + part, used.machine.steps(), fresh.machine.steps());
+            }
+        }
+    }
+
+    /** A fault leaves nothing that the next tape could find. */
+    private static void behindFaults() {
+        Probe p = new Probe();
+        Probe.due("an open brace", p.load("{ { 1"), -4);
+        Probe.due("is open no more", p.load("1 }"), -4);
+        Probe.due("here", p.machine.place(), 2);
+        Probe.due("an open brace", p.load("{ { 1"), -4);
+        Probe.due("a pair", p.left("{ 5 }"), "{1}");
+        Probe.due("an open text", p.load("( (a"), -2);
+        Probe.due("a text", p.left("(a)"), "(a)");
+        Probe.due("too many braces", p.load("{".repeat(65)), -7);
+        Probe.due("64", p.load("{".repeat(64) + "}".repeat(64)), 0);
     }
 
     /** "1 ) or > with which nothing is open, there" */
