@@ -240,8 +240,32 @@ public final class ErrorsTest {
         Probe.due("transform", depthBehind(500, "", "transform"), 500);
     }
 
+    /** The operands of an operator whose results do not fit, above so many others. */
+    private static void keeps(int full, String before, String operands, String operator) {
+        Probe with = new Probe();
+        Probe without = new Probe();
+        with.run(before + Probe.full(full) + operands + operator);
+        without.run(before + Probe.full(full) + operands);
+        Probe.due("overflow of " + operator, with.machine.error(), 2);
+        Probe.due("operands of " + operator, with.machine.depth(0), without.machine.depth(0));
+        for (int k = 0; k < 4; k++) {
+            Probe.due("operand " + k + " of " + operator, with.operand(k), without.operand(k));
+        }
+    }
+
     /** "Where it fails, nothing is changed ..: its operands are there as before" */
     private static void resultsThatDoNotFit() {
+        keeps(499, "", "/add ", "where");
+        keeps(498, "", "(abc) (a) ", "anchorsearch");
+        keeps(497, "", "(abc) (b) ", "search");
+        keeps(498, "", "(abc) (b) ", "search");
+        keeps(498, "", "{ 1 2 } ", "aload");
+        keeps(499, "", "{ 1 2 3 } ", "aload");
+        keeps(260, "", "250 ", "copy");
+        keeps(499, "1 1 moveto ", "", "currentpoint");
+        keeps(500, "1 1 moveto ", "", "currentpoint");
+        keeps(497, "1 1 moveto ", "", "pathbbox");
+        keeps(499, "1 1 moveto ", "", "pathbbox");
         Probe p = new Probe();
         p.run("gsave " + Probe.full(500) + "save");
         Probe.due("no copy of a save that does not fit", p.machine.depth(3), 1);

@@ -13,6 +13,7 @@ public final class PageEdgesTest {
         slantedEdges();
         rules();
         closedLines();
+        widePages();
         farAway();
         pathsThatGo();
         clips();
@@ -180,6 +181,26 @@ public final class PageEdgesTest {
         Probe.due("a subpath behind closing", p.row(3), "###.");
     }
 
+    /** Boxes on a wide page: their rows, and the pixels next to them. */
+    private static void widePages() {
+        int[] lefts = {0, 1, 62, 63, 64, 65, 127, 128, 190, 191, 192, 250};
+        for (int left : lefts) {
+            for (int width : new int[] {1, 2, 3, 70, 130}) {
+                Probe p = new Probe(256, 9);
+                int right = Math.min(256, left + width);
+                p.run(PLAIN + left + " 3 moveto " + right + " 3 lineto " + right + " 6 lineto " + left + " 6 lineto "
+                        + "gsave fill grestore clip");
+                String what = "box of " + width + " at " + left;
+                for (int row = 0; row < 9; row++) {
+                    Probe.due(what + ": row " + row, p.machine.count(row, 0), row >= 3 && row < 6 ? right - left : 0);
+                }
+                Probe.due(what + ": first", p.machine.gray(left, 4), 0);
+                Probe.due(what + ": last", p.machine.gray(right - 1, 5), 0);
+                Probe.due(what + ": clip", p.machine.depth(5), 3 * (right - left));
+            }
+        }
+    }
+
     private static void farAway() {
         Probe p = new Probe(4, 4);
         p.run(PLAIN + "-8192 -8192 moveto 8192 -8192 lineto 8192 8192 lineto -8192 8192 lineto fill");
@@ -253,6 +274,14 @@ public final class PageEdgesTest {
         runs(striped(65, 188), 12, 65536);
         runs(striped(128, 187), 0, 128 * 187);
         runs(striped(128, 188), 12, 65536);
+        // Of odd columns as well.
+        String odd = "0 2 254 { dup 1 add 0 moveto ";
+        runs(striped(64, 188).replace("0 2 254 { dup 0 moveto ", odd), 0, 24000);
+        runs(striped(65, 188).replace("0 2 254 { dup 0 moveto ", odd), 12, 65536);
+        // Stripes of two columns, one of them over the columns 63 and 64: 86 of them in each row.
+        String twos = PLAIN + "0 3 255 { 0 moveto 0 %1 rlineto 2 0 rlineto 0 -%1 rlineto closepath } for clip newpath gsave";
+        runs(twos.replace("%1", "139"), 0, 171 * 139);
+        runs(twos.replace("%1", "140"), 12, 171 * 140);
         // A run is pixels of one row that follow one another, however many.
         runs(PLAIN + "0 0 moveto 256 0 lineto 256 256 lineto 0 256 lineto clip", 0, 65536);
     }
@@ -306,33 +335,30 @@ public final class PageEdgesTest {
         Probe.depthIs(set + change, 4, 2);
         Probe.depthIs(set + change, 5, 256);
         // Cap, join, limit, dashes and flatness are seen in what is painted.
-        String[] changes = {"2 setlinecap", "2 setlinejoin", "1 setmiterlimit", "[ 2 ] 0 setdash", "100 setflat"};
+        String[] changes = {"2 setlinecap", "2 setlinejoin", "1 setmiterlimit", "[ 2 ] 0 setdash", "[ 2 ] 1 setdash",
+            "[ 3 1 1 1 1 1 1 4 ] 0 setdash", "100 setflat"};
         String draw = "2 setlinewidth 3 3 moveto 9 3 lineto 9 9 lineto 9 12 2 12 3 7 curveto stroke";
-        Probe plain = new Probe();
-        plain.run(draw);
+        String same = picture(draw);
         for (String other : changes) {
-            Probe p = new Probe();
-            p.run(other + " " + draw);
-            String changed = "";
-            String back = "";
-            String kept = "";
-            String same = "";
-            for (int row = 0; row < 16; row++) {
-                changed += p.row(row);
-                same += plain.row(row);
-            }
-            p.run("gsave " + other + " grestore " + draw);
-            for (int row = 0; row < 16; row++) {
-                back += p.row(row);
-            }
-            p.run(other + " gsave 0 setlinecap 0 setlinejoin 10 setmiterlimit [ ] 0 setdash 0.25 setflat grestore " + draw);
-            for (int row = 0; row < 16; row++) {
-                kept += p.row(row);
-            }
+            String changed = picture(other + " " + draw);
+            String reset = "0 setlinecap 0 setlinejoin 10 setmiterlimit [ ] 0 setdash 0.25 setflat ";
             Probe.due(other + " changes what is painted", changed.equals(same) ? 1 : 0, 0);
-            Probe.due(other + " is gone by grestore", back, same);
-            Probe.due(other + " is kept by gsave", kept, changed);
+            Probe.due(other + " is gone by grestore", picture("gsave " + other + " grestore " + draw), same);
+            Probe.due(other + " is kept by gsave", picture(other + " gsave " + reset + "grestore " + draw), changed);
+            Probe.due(other + " is kept by save", picture(other + " save " + reset + "restore " + draw), changed);
+            Probe.due(other + " is kept by save and grestore",
+                    picture(other + " save pop " + reset + "grestore " + draw), changed);
         }
+    }
+
+    private static String picture(String program) {
+        Probe p = new Probe();
+        p.run(program);
+        StringBuilder text = new StringBuilder();
+        for (int row = 0; row < 16; row++) {
+            text.append(p.row(row));
+        }
+        return text.toString();
     }
 
     /** The first ones: "the gray (0.0), the width (1.0), cap (0), join (0), limit (10.0), dashes (none), .." */

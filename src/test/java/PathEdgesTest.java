@@ -27,6 +27,8 @@ public final class PathEdgesTest {
         halvedCurves();
         flattenedParts();
         reversed();
+        pictures();
+        lengths();
         Probe.finish();
     }
 
@@ -143,6 +145,17 @@ public final class PathEdgesTest {
         Probe.depthIs("1 1 moveto 2 2 lineto closepath 1 1 rlineto", 4, 5);
         Probe.leaves(PLAIN + "1 2 moveto 5 5 lineto closepath 7 7 lineto closepath currentpoint", "65536u 131072u");
         Probe.leaves(PLAIN + "1 2 moveto 5 5 lineto closepath 1 1 rlineto currentpoint", "131072u 196608u");
+        // Where the latest subpath begins, of more than one.
+        String two = PLAIN + "1 1 moveto 2 2 lineto 5 6 moveto 7 7 lineto ";
+        Probe.leaves(two + "closepath currentpoint", "327680u 393216u");
+        Probe.leaves(two + "gsave newpath 9 9 moveto grestore closepath currentpoint", "327680u 393216u");
+        Probe.leaves(two + "gsave closepath 3 3 moveto grestore closepath currentpoint", "327680u 393216u");
+        Probe.leaves(two + "1 1 2 2 3 3 curveto flattenpath closepath currentpoint", "327680u 393216u");
+        Probe.leaves(two + "reversepath closepath currentpoint", "458752u 458752u");
+        Probe.leaves(PLAIN + "1 1 moveto 5 5 lineto closepath 7 7 lineto reversepath closepath currentpoint",
+                "458752u 458752u");
+        Probe.leaves(PLAIN + "1 1 moveto 5 5 lineto closepath 7 7 lineto closepath currentpoint", "65536u 65536u");
+        Probe.leaves(PLAIN + "5 5 moveto 6 6 moveto 8 8 lineto closepath currentpoint", "393216u 393216u");
     }
 
     private static String lines(int parts) {
@@ -351,6 +364,15 @@ public final class PathEdgesTest {
                 Probe.due("bent at its end", flattened("", bentEnd, isDown), 2);
             }
         }
+        // 16383 units: three times 10922 is just twice that.
+        int[] even = {0, 0, 10922, 21844};
+        int[] evenEnd = {21844, 10922, 0, 0};
+        for (boolean isDown : new boolean[] {false, true}) {
+            Probe.due("as flat as must be", flattened(unit(16383) + "setflat ", even, isDown), 1);
+            Probe.due("at its end", flattened(unit(16383) + "setflat ", evenEnd, isDown), 1);
+            Probe.due("no more", flattened(unit(16382) + "setflat ", even, isDown), 2);
+            Probe.due("no more at its end", flattened(unit(16382) + "setflat ", evenEnd, isDown), 2);
+        }
         // setflat is brought to 0.0001 .. 100: 7 to 6553600 units.
         int[] least = {0, 0, 4, 8};
         int[] more = {0, 0, 5, 10};
@@ -399,6 +421,83 @@ public final class PathEdgesTest {
             Probe.due("3001 by " + op, error(two + "950 { 1 1 lineto } repeat " + op), 12);
         }
         Probe.depthIs("1 1 moveto 2 2 lineto closepath 3 3 moveto flattenpath", 4, 4);
+        // What lies about the curves stays as it is.
+        Probe.leaves(PLAIN + "0 0 moveto 1 5 3 9 8 2 curveto flattenpath currentpoint pathbbox",
+                "524288u 131072u 0u 0u 524288u 377600u");
+        Probe.depthIs(PLAIN + "0 0 moveto 1 5 3 9 8 2 curveto flattenpath", 4, 10);
+        Probe.leaves(PLAIN + "0 0 moveto 1 5 3 9 8 2 curveto 9 -4 lineto flattenpath currentpoint pathbbox",
+                "589824u -262144u 0u -262144u 589824u 377600u");
+        Probe.leaves(PLAIN + "0 0 moveto 1 5 3 9 8 2 curveto 9 -4 moveto -3 -5 lineto flattenpath pathbbox",
+                "-196608u -327680u 589824u 377600u");
+    }
+
+    private static void looks(String program, String... rows) {
+        Probe p = new Probe(rows[0].length(), rows.length);
+        p.run(PLAIN + program);
+        for (int row = 0; row < rows.length; row++) {
+            Probe.due(program + ": row " + row, p.row(row), rows[row]);
+        }
+    }
+
+    private static final String FIRST = "1 1 moveto 2 9 9 14 15 3 curveto 9 9 lineto 4 15 3 8 2 12 curveto closepath ";
+    private static final String[] FIRST_ROWS = {
+        "................", "................", "................", ".#............#.",
+        ".#...........#..", ".#..........#...", ".##........##...", "..##......##....",
+        "..###....#......", "..#######.......", "..######........", "................",
+        "................", "................", "................", "................"};
+    private static final String SECOND = "0 8 moveto 5 -6 11 22 16 8 curveto 16 16 lineto 0 16 lineto ";
+    private static final String[] SECOND_ROWS = {
+        "................", "................", "................", "................",
+        "..###...........", ".#####..........", ".######.........", "########........",
+        "########........", "#########......#", "##########.....#", "###########...##",
+        "################", "################", "################", "################"};
+    private static final String[] SECOND_FLATTER = {
+        "................", "................", "................", "................",
+        "..##............", ".####...........", ".#####..........", "#######.........",
+        "#########.......", "##########.....#", "###########....#", "############..##",
+        "################", "################", "################", "################"};
+    private static final String THIRD = "2 2 moveto 14 2 lineto 14 14 lineto closepath 2 14 lineto 9 12 12 6 5 5 curveto ";
+    private static final String[] THIRD_ROWS = {
+        "................", "................", "..############..", "..############..",
+        "..############..", "..###..#######..", "..####..######..", "..#####..#####..",
+        "..######.#####..", "..############..", "..######..####..", "..#####....###..",
+        "..###.......##..", "..#..........#..", "................", "................"};
+
+    /** Lines and curves in turn, filled as they are, flattened before, and from their ends. */
+    private static void pictures() {
+        looks(FIRST + "fill", FIRST_ROWS);
+        looks(SECOND + "fill", SECOND_ROWS);
+        looks("3 setflat " + SECOND + "fill", SECOND_FLATTER);
+        looks(THIRD + "fill", THIRD_ROWS);
+        looks(FIRST + "flattenpath fill", FIRST_ROWS);
+        looks(SECOND + "flattenpath 3 setflat fill", SECOND_ROWS);
+        looks(THIRD + "flattenpath fill", THIRD_ROWS);
+        looks(FIRST + "flattenpath reversepath fill", FIRST_ROWS);
+        looks(THIRD + "flattenpath reversepath fill", THIRD_ROWS);
+        looks(FIRST + "gsave newpath grestore fill", FIRST_ROWS);
+        // Halving rounds down, so that a curve from its end may differ by a unit: centres lie farther off here.
+        looks(SECOND + "reversepath fill", SECOND_ROWS);
+        looks(FIRST + "reversepath fill", FIRST_ROWS);
+        looks(THIRD + "reversepath fill", THIRD_ROWS);
+        looks(THIRD + "reversepath reversepath fill", THIRD_ROWS);
+        looks(FIRST + "clip newpath 0 0 moveto 16 0 lineto 16 16 lineto 0 16 lineto fill", FIRST_ROWS);
+    }
+
+    /** Paths of every length about those where rows of parts and points are made longer. */
+    private static void lengths() {
+        for (int n = 1; n <= 70; n++) {
+            Probe.depthIs("1 1 moveto " + n + " { 2 2 lineto } repeat closepath", 4, n + 2);
+            Probe.depthIs("1 1 moveto " + n + " { 1 1 2 2 3 3 curveto } repeat closepath gsave grestore", 4, n + 2);
+            Probe.depthIs("1 1 moveto " + n + " { closepath 2 2 lineto } repeat", 4, 3 * n + 1);
+            Probe.depthIs("1 1 moveto " + n + " { closepath 1 1 2 2 3 3 curveto } repeat closepath", 4, 3 * n + 2);
+            Probe.depthIs(n + " { 1 1 moveto closepath } repeat", 4, 2 * n);
+            Probe.depthIs("1 1 moveto " + n + " { 5 5 2 0 360 arc } repeat", 4, 5 * n + 1);
+        }
+        String curves = PLAIN + "1 1 moveto 2999 { 1 2 3 4 5 6 curveto } repeat ";
+        Probe.depthIs(curves + "gsave newpath grestore", 4, 3000);
+        Probe.leaves(curves + "gsave newpath grestore pathbbox reversepath currentpoint",
+                "65536u 65536u 327680u 393216u 65536u 65536u");
+        Probe.depthIs(curves + "100 setflat flattenpath", 4, 3000);
     }
 
     /** "reversepath: each subpath from its end to its beginning, in their order; a closed one .." */
@@ -410,6 +509,13 @@ public final class PathEdgesTest {
         Probe.leaves(PLAIN + "1 2 moveto 3 4 lineto 5 6 moveto 7 8 lineto reversepath currentpoint", "327680u 393216u");
         Probe.leaves(PLAIN + "1 2 moveto closepath reversepath currentpoint", "65536u 131072u");
         Probe.depthIs("1 1 moveto 2 2 lineto 1 1 2 2 3 3 curveto closepath 4 4 moveto reversepath", 4, 5);
+        Probe.leaves(PLAIN + "1 1 moveto 5 1 lineto 5 5 lineto closepath 7 8 moveto 9 7 lineto 9 9 lineto reversepath currentpoint",
+                "458752u 524288u");
+        Probe.leaves(PLAIN + "1 1 moveto closepath 7 8 moveto 9 7 lineto 9 9 lineto closepath reversepath currentpoint",
+                "589824u 589824u");
+        // What was there of a longer path is there no more.
+        Probe.leaves(PLAIN + "1 1 moveto 9 { 8 8 lineto } repeat newpath 2 2 moveto 3 3 lineto reversepath currentpoint pathbbox",
+                "131072u 131072u 131072u 131072u 196608u 196608u");
         // A line and then a curve become a curve and then a line.
         Probe.leaves(PLAIN + "0 0 moveto 9 9 lineto 9 0 9 0 0 0 curveto reversepath 0 0 moveto pathbbox",
                 "0u 0u 589824u 589824u");

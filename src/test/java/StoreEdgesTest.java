@@ -6,6 +6,7 @@ public final class StoreEdgesTest {
         rows();
         places();
         bytes();
+        oneIsFull();
         dictionaries();
         keys();
         keysOfOtherOperators();
@@ -88,6 +89,17 @@ public final class StoreEdgesTest {
         Probe.leaves("65525 string pop (abc) (defghij) copy (a) anchorsearch", "(bc) (a) true");
         Probe.leaves("65535 array", "65535 error 14");
         Probe.leaves("65536 array", "65536 error 4");
+    }
+
+    /** Where one is full the others are not. */
+    private static void oneIsFull() {
+        Probe.leaves("32768 array pop 5 string length 0 array length", "5 0");
+        Probe.leaves("65535 string pop 1 string pop 5 array length [ 1 2 ] length 0 string length matrix length", "5 2 0 6");
+        Probe.leaves("65532 string pop (abcd) 1 2 getinterval length [ 1 2 ] 1 1 getinterval length", "2 1");
+        Probe.leaves("32766 array pop [ 1 2 ] 1 1 getinterval length (abcd) 1 2 getinterval length", "1 2");
+        Probe.leaves("32768 array pop 12 (abc) cvs (abc) (b) search pop pop pop pop (abc) (a) anchorsearch pop pop pop", "(12)");
+        Probe.leaves("32768 array pop (abc) (xyz) copy 0 dict << 1 2 >>", "(abc) <0> <1>");
+        Probe.leaves("16383 { 0 array pop } repeat << 1 2 >> 0 dict", "<1> <0>");
     }
 
     /** "1024 dictionaries (with USER and FONTS, not SYSTEM)" */

@@ -158,6 +158,11 @@ public final class StrokeEdgesTest {
                 "0 0 moveto 10 0 lineto 0 2 lineto", -12853, -65536, 1317052, 195335);
         reaches("1 0 0 1", "2 setlinewidth 2 setlinejoin",
                 "0 0 moveto 10 0 lineto 0 4 lineto", -24339, -65536, 679699, 322993);
+        // the first limit is 10.0: this mitre is within it, the next one is not
+        reaches("1 0 0 1", "1 setlinewidth",
+                "0 0 moveto 10 0 lineto 0.220001220703125 2.0860443115234375 lineto", 0, -32768, 966042, 168758);
+        reaches("1 0 0 1", "1 setlinewidth",
+                "0 0 moveto 10 0 lineto 0.17999267578125 1.8888092041015625 lineto", 0, -32768, 661549, 155963);
         // no join where the way goes on, or straight back
         reaches("1 0 0 1", "2 setlinewidth",
                 "0 0 moveto 10 0 lineto 20 0 lineto", 0, -65536, 1310720, 65536);
@@ -456,6 +461,14 @@ public final class StrokeEdgesTest {
         String even = PLAIN + "[ 0 1 ] 0 setdash -5000 0 moveto ";
         Probe.due("20000 in one run", error(even + "5000 0 lineto stroke"), 0);
         Probe.due("20002 in one run", error(even + "5000.00002 0 lineto stroke"), 12);
+        Probe.due("of each stroke alone", error(even + "5000 0 lineto stroke -5000 0 moveto 5000 0 lineto stroke"), 0);
+        Probe.due("pieces of each stroke alone", error("2 { 0 0 moveto 1500 { 1 0 rlineto } repeat stroke } repeat"), 0);
+        // One dash with many points.
+        Probe p = new Probe(100, 1);
+        p.run(PLAIN + "[ 50 8000 ] 0 setdash 0 0.5 moveto 1 1 100 { 0.5 lineto } for stroke");
+        Probe.due("a dash over fifty points", p.machine.count(0, 0), 50);
+        p.run(PLAIN + "[ 5000 1 ] 0 setdash 0 0.5 moveto 1999 { 0.05 0 rlineto } repeat stroke");
+        Probe.due("a dash over 2000 points", p.machine.count(0, 0), 100);
     }
 
     /** "stroke: the path FLATTENED (LIMIT)" */
