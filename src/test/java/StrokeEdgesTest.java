@@ -19,6 +19,8 @@ public final class StrokeEdgesTest {
         dashesAboutCorners();
         passedOver();
         mitres();
+        slanted();
+        manyRows();
         halfWidths();
         dashLengths();
         noDashes();
@@ -374,6 +376,92 @@ public final class StrokeEdgesTest {
                 ".##...........", "..............");
     }
 
+    /** Caps of slanted lines, joins to either side. */
+    private static void slanted() {
+        painted("4 setlinewidth 2 setlinecap "
+                + "4 4 moveto 10 8 lineto",
+                "...............", "...#...........", "...##..........", "..#####........",
+                ".#######.......", "...#######.....", "....#######....", "......#######..",
+                ".......#####...", ".........##....", "..........#....", "...............");
+        painted("4 setlinewidth 2 setlinecap "
+                + "10 8 moveto 4 4 lineto",
+                "...............", "...#...........", "...##..........", "..#####........",
+                ".#######.......", "...#######.....", "....#######....", "......#######..",
+                ".......#####...", ".........##....", "..........#....", "...............");
+        painted("3 setlinewidth 2 setlinecap "
+                + "4 9 moveto 9 3 lineto",
+                "..............", "........##....", ".......####...", ".......####...",
+                "......####....", ".....####.....", "....####......", "...####.......",
+                "..####........", "..####........", "...##.........", "..............");
+        painted("3 setlinewidth 2 setlinecap "
+                + "9 3 moveto 4 9 lineto",
+                "..............", "........##....", ".......####...", ".......####...",
+                "......####....", ".....####.....", "....####......", "...####.......",
+                "..####........", "..####........", "...##.........", "..............");
+        painted("6 setlinewidth 2 setlinejoin "
+                + "3 3 moveto 10 3 lineto 10 9 lineto",
+                "...#######.....", "...########....", "...#########...", "...##########..",
+                "...##########..", "...##########..", ".......######..", ".......######..",
+                ".......######..", "...............");
+        painted("6 setlinewidth 2 setlinejoin "
+                + "3 7 moveto 10 7 lineto 10 1 lineto",
+                "...............", ".......######..", ".......######..", ".......######..",
+                "...##########..", "...##########..", "...##########..", "...#########...",
+                "...########....", "...#######.....", "...............");
+        painted("6 setlinewidth 2 setlinejoin "
+                + "10 9 moveto 10 3 lineto 3 3 lineto",
+                "...#######.....", "...########....", "...#########...", "...##########..",
+                "...##########..", "...##########..", ".......######..", ".......######..",
+                ".......######..", "...............");
+        painted("5 setlinewidth 2 setlinejoin "
+                + "2 8 moveto 8 4 lineto 14 9 lineto",
+                "................", "................", "......####......", "....#######.....",
+                "...##########...", ".#############..", ".##############.", "..#####.#######.",
+                "..####...#####..", "...#.......###..", "............#...", "................");
+        painted("5 setlinewidth 2 setlinejoin "
+                + "2 4 moveto 8 8 lineto 14 3 lineto",
+                "................", "............#...", "...#.......###..", "..####...#####..",
+                "..#####.#######.", ".##############.", ".#############..", "...##########...",
+                "....#######.....", "......####......", "................", "................");
+        painted("5 setlinewidth "
+                + "2 4 moveto 8 8 lineto 14 3 lineto",
+                "................", "............#...", "...#.......###..", "..####...#####..",
+                "..#####.#######.", ".##############.", ".#############..", "...##########...",
+                "....#######.....", "......####......", ".......##.......", "................");
+        painted("5 setlinewidth "
+                + "2 8 moveto 8 4 lineto 14 9 lineto",
+                "................", ".......##.......", "......####......", "....#######.....",
+                "...##########...", ".#############..", ".##############.", "..#####.#######.",
+                "..####...#####..", "...#.......###..", "............#...", "................");
+    }
+
+    /** "each subpath is a row of points, closed or open" */
+    private static void manyRows() {
+        painted("1 setlinewidth "
+                + "1 1 moveto 6 1 lineto 6 6 lineto closepath 9 1 moveto 14 1 lineto 14 6 lineto",
+                "######...#####..", ".#...#.......#..", "..#..#.......#..", "...#.#.......#..",
+                "....##.......#..", ".....#.......#..", "................", "................");
+        painted("1 setlinewidth "
+                + "9 1 moveto 14 1 lineto 14 6 lineto 1 1 moveto 6 1 lineto 6 6 lineto closepath",
+                "######...#####..", ".#...#.......#..", "..#..#.......#..", "...#.#.......#..",
+                "....##.......#..", ".....#.......#..", "................", "................");
+        painted("1 setlinewidth "
+                + "2 2 moveto 8 5 lineto 4 7 lineto 2 2 lineto closepath",
+                "..........", ".#........", "..##......", "..#.##....",
+                "..##..##..", "...#..##..", "...###....", "..........",
+                "..........");
+        painted("1 setlinewidth "
+                + "2 2 moveto 8 5 lineto 4 7 lineto 2 2 lineto",
+                "..........", "..........", "..##......", "..#.##....",
+                "..##..##..", "...#..##..", "...###....", "..........",
+                "..........");
+        // Each stroke begins anew, whatever the dashes of the one before.
+        painted("[ 2 1 ] 2 setdash 0 0.5 moveto 9 0.5 lineto stroke [ 2 1 ] 0 setdash 0 1.5 moveto 9 1.5 lineto",
+                ".##.##.##", "##.##.##.");
+        painted("[ 3 2 1 ] 3 setdash 0 0.5 moveto 9 0.5 lineto stroke [ 2 ] 0 setdash 0 1.5 moveto 9 1.5 lineto",
+                "..#...##.", "##..##..#");
+    }
+
     /** "or a half width above 4194304 .. looked at first" */
     private static void halfWidths() {
         String line = "1 1 moveto 5 5 lineto stroke";
@@ -458,9 +546,12 @@ public final class StrokeEdgesTest {
         Probe.due("20000", error(dashes + "4999.5 0 lineto " + shortRun + "stroke"), 0);
         Probe.due("20001", error(dashes + "4999.5 0 lineto " + shortRun + shortRun + "stroke"), 12);
         Probe.due("20001 in one run", error(dashes + "4999.50002 0 lineto stroke"), 12);
+        // A dash that is as long as what is left of the offset is passed: each run begins with a gap.
         String even = PLAIN + "[ 0 1 ] 0 setdash -5000 0 moveto ";
-        Probe.due("20000 in one run", error(even + "5000 0 lineto stroke"), 0);
-        Probe.due("20002 in one run", error(even + "5000.00002 0 lineto stroke"), 12);
+        Probe.due("19999 in one run", error(even + "5000 0 lineto stroke"), 0);
+        Probe.due("20000 in two runs", error(even + "5000 0 lineto " + shortRun + "stroke"), 0);
+        Probe.due("20001 in three runs", error(even + "5000 0 lineto " + shortRun + shortRun + "stroke"), 12);
+        Probe.due("20001 in one run", error(even + "5000.00002 0 lineto stroke"), 12);
         Probe.due("of each stroke alone", error(even + "5000 0 lineto stroke -5000 0 moveto 5000 0 lineto stroke"), 0);
         Probe.due("pieces of each stroke alone", error("2 { 0 0 moveto 1500 { 1 0 rlineto } repeat stroke } repeat"), 0);
         // One dash with many points.
