@@ -66,6 +66,8 @@ public final class MatrixEdgesTest {
         Probe.leaves(halves + "-" + UNIT + "-" + UNIT + "transform", "-1u 0u");
         Probe.leaves(halves + UNIT + UNIT + "dtransform -" + UNIT + "0 dtransform", "1u 0u 0u 0u");
         Probe.leaves("[ 1 2 3 4 5 6 ] setmatrix 1 1 transform 1 1 dtransform", "589824u 786432u 262144u 393216u");
+        Probe.leaves("[ 1 2 3 5 9 9 ] setmatrix 7 11 dtransform 7 11 transform", "2621440u 4521984u 3211264u 5111808u");
+        Probe.leaves("[ 1 2 3 5 9 9 ] setmatrix 49 78 itransform", "458752u 720896u");
         Probe.leaves("[ 1 2 3 4 5 6 ] setmatrix 0 0 transform 0 0 dtransform", "327680u 393216u 0u 0u");
     }
 

@@ -97,6 +97,12 @@ public final class PathEdgesTest {
         Probe.due("rcurveto", error(from + "192 0 192 0 192.00002 0 rcurveto"), 12);
         // Each two numbers go from THE POINT that there is.
         Probe.leaves(PLAIN + "1 2 moveto 1 1 2 2 3 4 rcurveto currentpoint", "262144u 393216u");
+        Probe.leaves(PLAIN + "1 1 moveto [ 1 2 3 5 9 9 ] setmatrix 7 11 rlineto " + PLAIN + "currentpoint", "2686976u 4587520u");
+        Probe.leaves(PLAIN + "1 1 moveto [ 1 2 3 5 9 9 ] setmatrix 7 11 rmoveto " + PLAIN + "currentpoint", "2686976u 4587520u");
+        Probe.leaves(PLAIN + "1 1 moveto [ 1 2 3 5 9 9 ] setmatrix 1 2 3 4 7 11 rcurveto " + PLAIN + "currentpoint pathbbox",
+                "2686976u 4587520u 65536u 65536u 2686976u 4587520u");
+        Probe.leaves("[ 1 2 3 5 9 9 ] setmatrix 7 11 moveto 1 2 lineto " + PLAIN + "currentpoint pathbbox",
+                "1048576u 1376256u 1048576u 1376256u 3211264u 5111808u");
         Probe.leaves("[ 2 0 0 4 5 5 ] setmatrix 1 1 moveto 1 1 rlineto currentpoint 1 1 rmoveto currentpoint",
                 "131072u 131072u 196608u 196608u");
     }
@@ -172,6 +178,9 @@ public final class PathEdgesTest {
             Probe.due("the 3001st part by " + op, error(lines(3000) + op), 12);
             Probe.depthIs(lines(3000) + op, 4, 3000);
         }
+        Probe.leaves(lines(3000) + "5 6 lineto", "5 6 error 12");
+        Probe.leaves(lines(3000) + "1 2 3 4 5 6 rcurveto", "1 2 3 4 5 6 error 12");
+        Probe.leaves(lines(3000) + "5 5 2 0 90 arc", "5 5 2 0 90 error 12");
         // In the place of a beginning alone, and what is closed already, want no room.
         Probe.due("a beginning alone", error(lines(2999) + "5 5 moveto 6 6 moveto 1 1 rmoveto"), 0);
         Probe.due("closed already", error(lines(2999) + "closepath closepath"), 0);
@@ -308,6 +317,12 @@ public final class PathEdgesTest {
         Probe.due("the greatest axes", error(PLAIN + "0 0 8192 0 90 arc"), 0);
         Probe.due("are no places", error(PLAIN + "0 0 8192.00002 0 0 arc"), 12);
         Probe.due("nor below", error(PLAIN + "0 0 -8192.00002 90 90 arc"), 12);
+        // Each of the axes' four places, where the only point lies nearer.
+        String[] matrices = {"1 0 0 0.5", "0.5 0 0 1", "0 1 0.5 0", "0 0.5 1 0"};
+        for (String matrix : matrices) {
+            Probe.due("the last axis of " + matrix, error("[ " + matrix + " 0 0 ] setmatrix 0 0 8192 45 45 arc"), 0);
+            Probe.due("no axis of " + matrix, error("[ " + matrix + " 0 0 ] setmatrix 0 0 8192.00002 45 45 arc"), 12);
+        }
         Probe.due("the farthest middle", error(PLAIN + "8192 0 0 0 90 arc"), 0);
         Probe.due("is no place", error(PLAIN + "8192.00002 0 1 180 180 arc"), 12);
         Probe.due("the farthest point", error(PLAIN + "8190 0 2 0 90 arc"), 0);

@@ -126,6 +126,11 @@ public final class SaveEdgesTest {
         Probe.leaves("/f " + FONT + "def save " + FONT + "setfont gsave f setfont restore", "save1 error 15");
         Probe.leaves("/f " + FONT + "def save " + FONT + "setfont f setfont restore", "");
         Probe.leaves("save gsave " + FONT + "setfont grestore restore", "");
+        // On the lowest copy of the pile, where that of the save is gone by a glyph's end.
+        String glyph = "/f << /FontMatrix [ 1 0 0 1 0 0 ] /BuildGlyph { pop pop /s save def } >> def f setfont 0 0 moveto "
+                + "(x) show ";
+        Probe.leaves(glyph + FONT + "setfont gsave f setfont s restore", "save1 error 15");
+        Probe.leaves(glyph + FONT + "setfont gsave f setfont grestore f setfont s restore", "");
         Probe.leaves(FONT + "setfont save restore currentfont", "<2>");
     }
 

@@ -109,6 +109,9 @@ public final class ShowEdgesTest {
         Probe.leaves("currentfont", "null");
         Probe.leaves(FONT + "dup setfont currentfont eq", "true");
         Probe.leaves("gsave " + FONT + "setfont grestore currentfont", "null");
+        // Any dictionary may be one, also USER.
+        Probe.leaves("/FontMatrix [ 1 0 0 1 0 0 ] def /BuildGlyph { pop pop 7 } def currentdict setfont currentfont "
+                + "currentdict eq 1 1 moveto (a) show", "true 7");
         Probe.leaves(FONT + "setfont gsave << " + MATRIX + "/BuildGlyph { } /a 1 >> setfont currentfont grestore currentfont",
                 "<3> <2>");
         Probe p = new Probe();

@@ -100,6 +100,7 @@ public final class StoreEdgesTest {
         Probe.leaves("32768 array pop 12 (abc) cvs (abc) (b) search pop pop pop pop (abc) (a) anchorsearch pop pop pop", "(12)");
         Probe.leaves("32768 array pop (abc) (xyz) copy 0 dict << 1 2 >>", "(abc) <0> <1>");
         Probe.leaves("16383 { 0 array pop } repeat << 1 2 >> 0 dict", "<1> <0>");
+        Probe.leaves("65535 string pop 1 string pop " + FONT + "2 scalefont", "<2>");
     }
 
     /** "1024 dictionaries (with USER and FONTS, not SYSTEM)" */
