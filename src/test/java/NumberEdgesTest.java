@@ -216,6 +216,8 @@ public final class NumberEdgesTest {
         Probe.leaves("(+5) 0 0 getinterval cvi", "() error 3");
         Probe.leaves("(1e5) 0 2 getinterval cvi", "(1e) error 3");
         Probe.leaves("(1e+5) 0 3 getinterval cvr", "(1e+) error 3");
+        Probe.leaves("(1e+5) 0 2 getinterval cvr", "(1e) error 3");
+        Probe.leaves("(1e-5) 0 2 getinterval cvi", "(1e) error 3");
         Probe.leaves("(16#ff) 0 3 getinterval cvi", "(16#) error 3");
         Probe.leaves("(x5y) 1 1 getinterval cvi", "5");
         // A text of more than a row is none, though it would be fault 5 else.

@@ -108,11 +108,13 @@ public final class SaveEdgesTest {
         Probe.leaves(s + "1 { s restore } repeat", "");
         Probe.leaves(s + "{ s restore } stopped", "false");
         // What was called there before is none of THE CALLS any more.
-        Probe.leaves(s + "[ 1 /pop load 2 /pop load ] cvx exec { s restore } stopped", "false");
-        Probe.leaves(s + "[ 1 ] { pop } forall { s restore } stopped", "false");
+        Probe.leaves(s + "[ 1 /pop load 2 /pop load ] cvx exec { s restore } stopped 5", "false 5");
+        Probe.leaves(s + "[ 1 ] { pop } forall { s restore } stopped 5", "false 5");
         Probe.leaves(s + "[ 1 ] { pop exit } forall { s restore } stopped 1 { 5 } repeat", "false 5");
-        Probe.leaves(s + "1 [ 1 /pop load ] cvx repeat { s restore exit } loop", "");
-        Probe.leaves(s + "2 string { pop } forall 1 1 1 { pop s restore } for", "");
+        Probe.leaves(s + "1 [ 1 /pop load ] cvx repeat { s restore exit } loop 5", "5");
+        Probe.leaves(s + "2 string { pop } forall 1 1 1 { pop s restore } for 5", "5");
+        Probe.leaves("<< /FontMatrix [ 1 0 0 1 0 0 ] /BuildGlyph { pop pop s restore } >> setfont 0 0 moveto " + s
+                + "[ 1 /pop load 2 /pop load ] cvx exec (a) show 5", "5");
         // The text and the font of a show.
         String glyph = "<< /FontMatrix [ 1 0 0 1 0 0 ] /BuildGlyph { pop pop s restore } >> setfont 0 0 moveto ";
         Probe.leaves(glyph + s + "(a) show", "");
@@ -188,7 +190,7 @@ public final class SaveEdgesTest {
         Probe.leaves(d + "d /b 2 put d { pop dup /a eq { s restore d /c 3 put } if } forall", "/a /c");
         Probe.leaves(d + "d { pop dup /a eq { d /a undef s restore d /c 3 put } if } forall", "/a /c");
         // The next loop over a dictionary is not at its end.
-        Probe.leaves(d + "d /b 2 put d { pop /b eq { s restore } if } forall d { } forall", "/a 1");
+        Probe.leaves(d + "d /b 2 put d { pop /b eq { s restore } if } forall d { } forall 5", "/a 1 5");
         // A key that is gone by undef is one to go on from.
         Probe.leaves("/d << /a 1 /b 2 >> def d { pop d /a undef } forall", "/a /b");
     }

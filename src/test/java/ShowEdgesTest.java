@@ -247,6 +247,12 @@ public final class ShowEdgesTest {
                 "true 12 6553600u 0u");
         String twice = PLAIN + "<< /FontMatrix [ 2 0 0 2 0 0 ] /BuildGlyph { pop pop %1 0 setcharwidth } >> setfont ";
         Probe.due("a way that is no real", error(twice.replace("%1", "16384") + "0 0 moveto (a) show"), 4);
+        Probe.due("also where THE MATRIX would make one of it", error(twice.replace("%1", "16384")
+                .replace(PLAIN, "[ 0.25 0 0 0.25 0 0 ] setmatrix ") + "0 0 moveto (a) show"), 4);
+        Probe.due("and upwards", error(twice.replace("%1 0", "0 16384")
+                .replace(PLAIN, "[ 0.25 0 0 0.25 0 0 ] setmatrix ") + "0 0 moveto (a) show"), 4);
+        Probe.due("no more than that", error(twice.replace("%1", "16383.99998")
+                .replace(PLAIN, "[ 0.25 0 0 0.25 0 0 ] setmatrix ") + "0 0 moveto (a) show"), 0);
         Probe.due("a real that is no place", error(twice.replace("%1", "16383.9") + "0 0 moveto (a) show"), 12);
         Probe.due("no real by THE MATRIX", error("[ 2 0 0 2 0 0 ] setmatrix " + font("pop pop 16384 0 setcharwidth")
                 + "0 0 moveto (a) show"), 4);
@@ -271,6 +277,8 @@ public final class ShowEdgesTest {
     /** "the width that setcharwidth (UNDEFINED when no glyph is under way; x y) has set last for this glyph" */
     private static void widthsOfGlyphs() {
         Probe.leaves("1 1 setcharwidth", "1 1 error 5");
+        Probe.leaves("1 1 setcharwidth 7", "1 1 error 5");
+        Probe.leaves("{ { 1 1 setcharwidth 7 } exec 8 } stopped pop lasterror clear 7", "7");
         Probe.leaves("1 (a) setcharwidth", "1 (a) error 3");
         Probe.leaves("1 setcharwidth", "1 error 1");
         Probe.leaves(font("pop pop") + "1 1 moveto (a) show 1 1 setcharwidth", "1 1 error 5");

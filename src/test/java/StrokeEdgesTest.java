@@ -11,6 +11,7 @@ public final class StrokeEdgesTest {
 
     public static void main(String[] args) {
         widths();
+        greatScales();
         across();
         caps();
         joins();
@@ -97,6 +98,15 @@ public final class StrokeEdgesTest {
                 "0 0 moveto 0.00152587890625 0 lineto", -1, -1, 101, 101);
         reaches("1 0 0 0.5", "3.0517578125 setlinewidth",
                 "0 0 moveto 0.00152587890625 0 lineto", 0, -70709, 100, 70709);
+    }
+
+    /** SCALE as great as may be, of a matrix whose a d - b c leaves no bit of 64 free. */
+    private static void greatScales() {
+        reaches("32767 32767 -32767 32767", "0.0000152587890625 setlinewidth",
+                "0 0 moveto 0.0000152587890625 0 lineto", -16384, -16384, 49151, 49151);
+        String most = "32767.9999847412109375";
+        reaches(most + " " + most + " -" + most + " " + most, "0.0000152587890625 setlinewidth",
+                "0 0 moveto 0.0000152587890625 0 lineto", -16384, -16384, 49152, 49152);
     }
 
     /** "its LENGTH is the greatest whole number L ..; its ACROSS is n = ((-dy h / L) ROUNDED, ..)" */

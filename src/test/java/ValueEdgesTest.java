@@ -152,6 +152,11 @@ public final class ValueEdgesTest {
         alike("/a [ 1 ]", false);
         alike("<< >> /abc", false);
         alike("/abc (ab) 0 1 getinterval", false);
+        for (String other : new String[] {"true", "false", "null", "mark", "0", "1", "0.0", "currentdict", "/add load"}) {
+            alike("(abc) pop " + other + " /abc", false);
+            alike("(abc) pop /abc " + other, false);
+            alike("(abc) " + other, false);
+        }
         alike("true true", true);
         alike("false false", true);
         alike("true false", false);
@@ -270,6 +275,8 @@ public final class ValueEdgesTest {
         Probe.tells("true = false = /a = /a cvx = /add load = (x\\377) = / = () print () =",
                 "true false a a add x\u00ff  ".trim());
         Probe.tells("null = mark = [ 1 ] = { 1 } = << >> = save =", "--nostringval-- ".repeat(6).trim());
+        Probe.tells("12 = null = (abc) = mark = 1.5 = [ ] = /x = null =",
+                "12 --nostringval-- abc --nostringval-- 1.50000 --nostringval-- x --nostringval--");
         Probe p = new Probe();
         p.run("(a) print () print (b\\012) print / =");
         Probe.due("print writes no byte 10, = does", p.output(), "ab\n\n");

@@ -239,10 +239,12 @@ public final class WordEdgesTest {
             "16#ff 1.5e+3 -1e-2 +7", "{ { 1 } 2 } }", "<< /a 1 >> % x\n y", "//a/b[]"};
         for (String tape : tapes) {
             for (int n = 0; n <= tape.length(); n++) {
+                // Twenties are fed without anything behind them: blanks come before.
+                String before = " ".repeat(20 - n % 20);
                 Probe used = new Probe();
-                used.load(tape);
+                used.load(before + tape + ")>)\n0");
                 Probe fresh = new Probe();
-                String part = tape.substring(0, n);
+                String part = before + tape.substring(0, n);
                 Probe.due("again " + part, used.left(part), fresh.left(part));
                 Probe.due("place of " + part, used.machine.place(), fresh.machine.place());
                 Probe.due("steps of " + part, used.machine.steps(), fresh.machine.steps());
