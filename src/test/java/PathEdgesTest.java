@@ -78,7 +78,6 @@ public final class PathEdgesTest {
         Probe.due("y is no real, x no place", error("[ 1 0 0 2 0 0 ] setmatrix 9000 -16384 moveto"), 4);
         Probe.due("a whole number that is none", error("40000 0 moveto"), 4);
         Probe.due("and a place that is none", error("9000 40000 moveto"), 4);
-        Probe.due("as reals first, of all six", error("0 0 moveto 9000 0 0 0 40000 0 curveto"), 4);
         Probe.due("dtransform", error("0 0 moveto [ 2 0 0 1 0 0 ] setmatrix 16384 0 rlineto"), 4);
         Probe.due("is looked at alone", error("0 0 moveto [ 2 0 0 1 32767 0 ] setmatrix 5 0 rlineto"), 0);
     }

@@ -316,7 +316,6 @@ public final class StoreEdgesTest {
         Probe.due("no program", p.machine.run(1), -1);
         Probe.due("nothing else", p.machine.depth(0) + p.machine.depth(2), 0);
         Probe.due("the next tape has room again", p.left("/x 5 def x"), "5");
-        Probe.due("a fault behind it", new Probe().load(tape + " AAAA )"), -1);
         Probe.due("an empty name is one, too", new Probe().load(tape + " /"), -9);
     }
 

@@ -394,7 +394,7 @@ public final class WordEdgesTest {
         Probe.due("a new object has room", new Probe(1, 1).load("["), 0);
     }
 
-    /** A tape is cut from place 0 on: the first fault is told; fault 9 is seen when it is cut. */
+    /** A tape is cut from place 0 on: the first fault is told. */
     private static void whichFaultComesFirst() {
         fault(") }", 1, 0);
         fault("} )", 4, 0);
