@@ -97,8 +97,10 @@ public final class AgainTest {
     private static void manyLoads() {
         String[] operators = {"add", "sub", "mul", "exec", "if", "pop", "dup", "eq", "array", "get", "dict", "def", "matrix",
             "moveto", "setgray", "fill", "show", "true", "gsave", "=", "]", ">>", "atan", "restore", "stroke", "ifelse"};
-        Probe p = new Probe();
+        Probe p = null;
         for (int n = 0; n < 600; n++) {
+            // An object is good for 512 calls.
+            p = n % 25 == 0 ? new Probe() : p;
             String operator = operators[n % operators.length];
             String names = "/x" + n + " /y" + n * 7 + " /z" + n * n;
             Probe.due("load " + n, p.load("(" + operator + ") where " + names + " 1 2 add"), 0);

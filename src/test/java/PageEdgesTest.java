@@ -372,10 +372,12 @@ public final class PageEdgesTest {
         for (int row = 0; row < 16; row++) {
             Probe.due("row " + row, p.row(row), set.row(row));
         }
+        p = new Probe();
         p.run("2 setlinecap 2 setlinejoin 3 setmiterlimit [ 1 ] 0 setdash 9 setflat 5 setlinewidth 0.5 setgray gsave");
         p.run(draw);
+        String same = picture(draw);
         for (int row = 0; row < 16; row++) {
-            Probe.due("load makes the first ones: row " + row, p.row(row), set.row(row));
+            Probe.due("load makes the first ones: row " + row, p.row(row), same.substring(16 * row, 16 * row + 16));
         }
         Probe.due("and an empty pile", p.machine.depth(3), 0);
     }

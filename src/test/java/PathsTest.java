@@ -159,6 +159,7 @@ public final class PathsTest {
         p.run("0 0 moveto 1 1 lineto 1 2 3 4 5 6 curveto closepath 9 9 moveto reversepath");
         Probe.due("as many parts", p.machine.depth(4), 5);
         // What is reversed twice is as it was, so it is filled alike.
+        p = new Probe();
         Probe once = new Probe();
         once.run("1 1 moveto 9 3 lineto 12 15 3 12 8 9 curveto closepath 2 9 lineto 5 9 lineto fill");
         p.run("1 1 moveto 9 3 lineto 12 15 3 12 8 9 curveto closepath 2 9 lineto 5 9 lineto "

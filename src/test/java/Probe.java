@@ -76,7 +76,8 @@ final class Probe {
 
     String output() {
         StringBuilder text = new StringBuilder();
-        for (int i = 0; i < machine.output(); i++) {
+        int length = machine.output();
+        for (int i = 0; i < length; i++) {
             text.append((char) machine.outputAt(i));
         }
         return text.toString();
@@ -95,9 +96,10 @@ final class Probe {
     /** The row of grays of the page, a character each: # for 0, . for 255, ? for others. */
     String row(int row) {
         StringBuilder text = new StringBuilder();
-        for (int c = 0; machine.gray(c, row) >= 0; c++) {
-            int gray = machine.gray(c, row);
+        int gray = machine.gray(0, row);
+        for (int c = 1; gray >= 0; c++) {
             text.append(gray == 0 ? '#' : gray == 255 ? '.' : '?');
+            gray = machine.gray(c, row);
         }
         return text.toString();
     }
@@ -109,8 +111,10 @@ final class Probe {
     /** What operand k is: 5, 98304u (a real's units), (text), /name, name, [2] {3} <4> by length. */
     String operand(int k) {
         StringBuilder bytes = new StringBuilder();
-        for (int i = 0; machine.byteOf(k, i) >= 0; i++) {
-            bytes.append((char) machine.byteOf(k, i));
+        int next = machine.byteOf(k, 0);
+        for (int i = 1; next >= 0; i++) {
+            bytes.append((char) next);
+            next = machine.byteOf(k, i);
         }
         int number = machine.numberOf(k);
         String[] told = {"null", "false", "true", "" + number, number + "u", "mark", "/" + bytes,

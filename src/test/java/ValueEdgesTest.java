@@ -242,7 +242,7 @@ public final class ValueEdgesTest {
         Probe.leaves("() cvn (a b) cvn (1) cvn (add) cvn (\\000) cvn", "/ /a b /1 /add /\0");
         Probe.leaves("(" + most + ") cvn", "/" + most);
         Probe.leaves("(" + most + "x) cvn", "(" + most + "x) error 4");
-        Probe.leaves("65535 string cvn length", "(" + "\0".repeat(65535) + ") error 4");
+        Probe.tells("{ 65535 string cvn } stopped = lasterror = length =", "true 4 65535");
         // It has the bytes as they are, not as they come to be.
         Probe.leaves("/t (ab) def t cvn t 0 120 put t", "/ab (xb)");
     }

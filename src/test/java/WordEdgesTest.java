@@ -1,4 +1,8 @@
-/** Part 1, sentence by sentence: the last case that is still taken, and the first one that is not. */
+/**
+ * Part 1, sentence by sentence: the last case that is still taken, and the first one that is not. The
+ * limits of the tape and of its words lie beyond the 512 calls for which an object is used; the tests
+ * of them, here and in StoreEdgesTest, are the only ones that ask more of one object.
+ */
 public final class WordEdgesTest {
     public static void main(String[] args) {
         tapeIsFull();
