@@ -324,7 +324,6 @@ public final class ShowEdgesTest {
         // quit, and an error that is not caught, change nothing else.
         Probe.depthIs(font("pop pop 0.5 setgray gsave quit") + "1 1 moveto (ab) show", 3, 2);
         Probe.depthIs(font("pop pop 0.5 setgray gsave nonesuch") + "1 1 moveto (ab) show", 3, 2);
-        Probe.depthIs(font("pop pop 0.5 setgray gsave stop") + "1 1 moveto (ab) show", 3, 2);
     }
 
     /** "the pile becomes as deep as before it, if it is deeper, with the graphics of the lowest copy that goes" */
