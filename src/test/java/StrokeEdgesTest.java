@@ -564,6 +564,12 @@ public final class StrokeEdgesTest {
         Probe.due("20001 in one run", error(even + "5000.00002 0 lineto stroke"), 12);
         Probe.due("of each stroke alone", error(even + "5000 0 lineto stroke -5000 0 moveto 5000 0 lineto stroke"), 0);
         Probe.due("pieces of each stroke alone", error("2 { 0 0 moveto 1500 { 1 0 rlineto } repeat stroke } repeat"), 0);
+        // Of seven lengths one has a length: fourteen dashes and gaps for each four pixels. Behind seven runs of
+        // one dash each the last one, which goes over a point, is the 20000th; behind eight it is one too many.
+        String last = "[ 2 0 0 0 0 0 0 ] 0 setdash %1 { 0 50 moveto 1 50 lineto } repeat "
+                + "-5712 0.5 moveto 1 0.5 lineto 2 0.5 lineto";
+        painted(last.replace("%1", "7"), "##......");
+        Probe.due("one too many", error(PLAIN + last.replace("%1", "8") + " stroke"), 12);
         // One dash with many points.
         Probe p = new Probe(100, 1);
         p.run(PLAIN + "[ 50 8000 ] 0 setdash 0 0.5 moveto 1 1 100 { 0.5 lineto } for stroke");
