@@ -143,8 +143,9 @@ public final class DoingEdgesTest {
     /** "CALLS that would be more than 250: EXECSTACKOVERFLOW." */
     private static void roomForCalls() {
         Probe.leaves(deep(249, "{ 1 2 } exec"), "1 2");
-        Probe.due("no room for two values", errorOf(deep(250, "{ 1 2 } exec")), 10);
-        Probe.due("nor for one", errorOf(deep(250, "{ 1 } exec")), 10);
+        // "Where it fails, nothing is changed ..: its operands are there as before"
+        Probe.leaves(deep(250, "7 { 1 2 } exec"), "7 {2} error 10");
+        Probe.leaves(deep(250, "{ 1 } exec"), "{1} error 10");
         Probe.leaves(deep(249, "{ 1 } exec"), "1");
         Probe.leaves(deep(250, "{ } exec 7 exec 1 2 /add load exec"), "7 3");
         Probe.leaves(deep(249, "true { 1 2 } if"), "1 2");
@@ -197,10 +198,16 @@ public final class DoingEdgesTest {
     private static void roomForStopped() {
         Probe.leaves(deep(248, "{ 1 2 } stopped"), "1 2 false");
         Probe.leaves(deep(249, "{ } stopped 5 stopped"), "false 5 false");
-        Probe.due("no room for stopped", errorOf(deep(250, "{ } stopped")), 10);
-        Probe.due("of whatever", errorOf(deep(250, "5 stopped")), 10);
+        // A stopped that fails has changed nothing: its operand is there, and no call of its own.
+        Probe.leaves(deep(250, "{ } stopped"), "{0} error 10");
+        Probe.leaves(deep(250, "5 stopped"), "5 error 10");
+        Probe.leaves(deep(249, "{ 1 2 } stopped"), "{2} error 10");
+        Probe.leaves("{ " + deep(247, "{ 1 2 } stopped") + " } stopped lasterror", "{2} true 10");
+        Probe.leaves("{ " + deep(246, "{ 1 2 } stopped") + " } stopped lasterror", "1 2 false false 0");
+        // What it has done is gone, and what that fails with is caught by it, also at 250.
+        Probe.leaves(deep(249, "7 /add load stopped /nonesuch cvx stopped lasterror"), "7 true true 5");
         // Below the calls that are counted here lie one more procedure, and stopped.
-        Probe.leaves("{ " + deep(248, "{ 1 2 } exec") + " } stopped exch pop lasterror clear", "");
+        Probe.leaves("{ " + deep(248, "{ 1 2 } exec") + " } stopped lasterror", "{2} true 10");
         Probe.due("no room below stopped", errorOf("{ " + deep(248, "{ 1 2 } exec") + " } stopped { 1 0 div } if"), 6);
         Probe.leaves("{ " + deep(247, "{ 1 2 } exec") + " } stopped lasterror", "1 2 false 0");
     }

@@ -14,6 +14,7 @@ public final class FaceTest {
         operands();
         page();
         output();
+        exampleOfReadme();
         Probe.due("BAD", PageMachine.BAD, -1);
         Probe.due("NO", PageMachine.NO, -2);
         Probe.due("FULL", PageMachine.FULL, -3);
@@ -193,5 +194,18 @@ public final class FaceTest {
         Probe.due("4", p.machine.outputAt(4), 10);
         Probe.due("5", p.machine.outputAt(5), -1);
         Probe.due("-1", p.machine.outputAt(-1), -1);
+    }
+
+    /** What README.md shows as the use of the class. */
+    private static void exampleOfReadme() {
+        PageMachine x = new PageMachine(20, 16);
+        Probe.due("twenty bytes", x.feed(0x31203220, 0x61646420, 0x3d203220, 0x32206d6f, 0x7665746f), 20);
+        Probe.due("and twenty", x.feed(0x20392032, 0x206c696e, 0x65746f20, 0x7374726f, 0x6b652020), 40);
+        Probe.due("two less", x.end(18), 38);
+        Probe.due("no fault", x.load(), 0);
+        Probe.due("the end", x.run(1000), 0);
+        Probe.due("1 2 add", x.outputAt(0), '3');
+        Probe.due("on the line", x.gray(3, 13), 0);
+        Probe.due("above it", x.gray(3, 12), 255);
     }
 }

@@ -16,6 +16,7 @@ public final class StoreEdgesTest {
         restoreGivesBack();
         names();
         nameBytes();
+        namesOfTypes();
         namesThatAreNotMade();
         namesOfTheTape();
         rowsOfTheTape();
@@ -289,6 +290,29 @@ public final class StoreEdgesTest {
         Probe.leaves(full + "(1234567) cvn pop () cvn (setgray) cvn", "/ /setgray");
         Probe.leaves(full + "(1234567) 1 def (1234567) load", "1");
         Probe.leaves(full + "(12345678) 1 def", "(12345678) 1 error 14");
+    }
+
+    /** "8192 names .. (the operators' not counted)": those of type and of fonts are no operators'. */
+    private static void namesOfTypes() {
+        String full = "/t 8 string def 0 1 %1 { t cvs cvn pop } for ";
+        String[] values = {"null", "true", "5", "1.5", "mark", "/t", "(a)", "[ ]", "{ }", "<< >>", "/add load", "save"};
+        String[] told = {"null", "true", "5", "98304u", "mark", "/t", "(a)", "[0]", "{0}", "<0>", "--add--", "save1"};
+        for (int i = 0; i < values.length; i++) {
+            Probe.leaves(full.replace("%1", "8190") + values[i] + " type", told[i] + " error 14");
+            Probe.leaves(full.replace("%1", "8189") + values[i] + " type xcheck", "true");
+        }
+        // Two values of one type have one name; the next one finds no room.
+        Probe.leaves(full.replace("%1", "8189") + "5 type 6 type eq 1.5 type", "true 98304u error 14");
+        // A name that the tape, or a text, has made is there.
+        Probe.leaves(full.replace("%1", "8189") + "5 type /integertype", "integertype /integertype");
+        Probe.leaves(full.replace("%1", "8189") + "(integertype) cvn 5 type eq", "true");
+        Probe.leaves(full.replace("%1", "8190") + "(FontMatrix) cvn", "(FontMatrix) error 14");
+        Probe.leaves(full.replace("%1", "8190") + "(integertype) 1 def", "(integertype) 1 error 14");
+        Probe.leaves(full.replace("%1", "8190") + "currentdict (integertype) known", "false");
+        // They count by their bytes as well: seven are left.
+        String bytes = "/t 127 string def 0 1 1031 { t cvs pop t cvn pop } for ";
+        Probe.leaves(bytes + "5 type", "5 error 14");
+        Probe.leaves(bytes.replace("1031", "1030") + "5 type", "integertype");
     }
 
     /** "a name that is not there yet is made by def, put, store and >> alone" */
