@@ -488,7 +488,7 @@ public final class PageMachine {
     private int makeRound(Call call) {
         if (call.kind == SHOW) {
             int fault = drawing.beginGlyph(call);
-            if (fault != FINE) {
+            if (fault != FINE && !call.underWay) {
                 stacks.callCount--;
             }
             return fault;
@@ -4739,7 +4739,7 @@ public final class PageMachine {
             return FINE;
         }
 
-        /** The next glyph of a show; where that fails nothing of the glyph is there. */
+        /** The next glyph of a show; it is under way unless it fails before BuildGlyph is called. */
         int beginGlyph(Call call) {
             if (!canKeep()) {
                 return LIMIT;
@@ -4756,10 +4756,6 @@ public final class PageMachine {
             if (!stacks.fits(2)) {
                 return STACK_OVERFLOW;
             }
-            int fault = stacks.callProcedure(glyphsOf(call.font));
-            if (fault != FINE) {
-                return fault;
-            }
             call.pileBefore = pileCount;
             call.x = graphics.path.pointX();
             call.y = graphics.path.pointY();
@@ -4773,7 +4769,7 @@ public final class PageMachine {
             stacks.push(value(DICTIONARY, call.font));
             stacks.push(store.element(call.source, call.next));
             call.next++;
-            return FINE;
+            return stacks.callProcedure(glyphsOf(call.font));
         }
 
         /** Behind a glyph: THE POINT is where it was, and the glyph's width further. */

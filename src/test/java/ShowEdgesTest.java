@@ -13,6 +13,7 @@ public final class ShowEdgesTest {
         orderOfShow();
         emptyTexts();
         roomForShow();
+        roomForBuildGlyph();
         roomOnThePile();
         roomForOperands();
         whatGlyphsGet();
@@ -151,7 +152,6 @@ public final class ShowEdgesTest {
         Probe.leaves(set + deep(249, "() show"), "");
         Probe.leaves(set + deep(250, "() show"), "() error 10");
         Probe.leaves(set + deep(248, "(a) show"), "");
-        Probe.due("no room for BuildGlyph", error(set + deep(249, "(a) show")), 10);
         Probe.leaves(set + deep(250, "(a) show"), "(a) error 10");
         Probe.leaves(font("") + "1 1 moveto " + deep(249, "(a) show pop pop"), "");
         Probe.leaves(deep(250, "() show"), "() error 16");
@@ -159,6 +159,23 @@ public final class ShowEdgesTest {
         p.load(set + "(ab) show 1");
         p.machine.run(19);
         Probe.due("tape and show", p.machine.depth(2), 2);
+    }
+
+    /** "the font and the byte come on the operands .., and BuildGlyph is called" */
+    private static void roomForBuildGlyph() {
+        String set = font("pop pop") + "1 1 moveto 2 2 lineto ";
+        // They have come where there is no room for that call.
+        String program = set + deep(249, "(ab) show");
+        Probe.leaves(program, "<2> 97 error 10");
+        Probe.depthIs(program, 3, 1);
+        Probe.depthIs(program, 4, 0);
+        // stop takes the show away, and its gsave is gone back to.
+        program = set + "{ " + deep(247, "(ab) show") + " } stopped lasterror";
+        Probe.leaves(program, "<2> 97 true 10");
+        Probe.depthIs(program, 3, 0);
+        Probe.depthIs(program, 4, 2);
+        Probe.leaves(set + "{ " + deep(246, "(ab) show") + " } stopped lasterror", "false 0");
+        Probe.leaves(font("") + "1 1 moveto { " + deep(247, "(ab) show") + " } stopped", "<2> 97 <2> 98 false");
     }
 
     /** "gsave (LIMIT there as if show failed, but the bytes before are shown, and it is gone)" */
